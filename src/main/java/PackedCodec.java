@@ -781,6 +781,9 @@ public final class PackedCodec {
         private void packList(Type t) {
             int n = (int) take(t.low, t.high);
             out.writeSize(t, n);
+            if (t.listed == null || t.listed.hollow) {
+                return;
+            }
             for (int i = 0; i < n && misfitPlace == NONE; i++) {
                 packType(t.listed);
             }
@@ -1121,6 +1124,9 @@ public final class PackedCodec {
         private void unpackList(Type t) {
             int n = in.readSize(t);
             give(n);
+            if (t.listed == null || t.listed.hollow) {
+                return;
+            }
             for (int i = 0; i < n && in.goesOn(); i++) {
                 unpackType(t.listed);
             }
