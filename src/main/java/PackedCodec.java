@@ -241,9 +241,6 @@ public final class PackedCodec {
     }
 
     public int turn(int bit) {
-        if (bit < 0 || bit >= 8 * octets.count) {
-            return BAD;
-        }
         return octets.turnBit(bit);
     }
 

@@ -30,6 +30,8 @@ public final class PackTest {
         badTypes();
         placeAndBits();
         full();
+        misfitBehindFull();
+        toldAnew();
         fullInOpen();
         hollowLists();
         Due.end();
@@ -132,6 +134,7 @@ public final class PackTest {
         int t = x.enumeration(2, 100);
         s.bench.bothWays("root", t, row(1), 64);
         s.bench.bothWays("SMALL 0", t, row(2), 128);
+        Due.is("19 SMALL 0", 8, x.bits());
         s.bench.bothWays("SMALL 63", t, row(65), 191);
         s.bench.bothWays("SMALL 64", t, row(66), 192, 1, 64);
         s.bench.bothWays("SMALL 99", t, row(101), 192, 1, 99);
@@ -155,6 +158,9 @@ public final class PackTest {
         s.bothWays("BITS from 0 on", any, row(0), 128, 0);
         s.bothWays("BITS from 0 on", any, row(3, 1, 0, 1), 128, 3, 160);
         s.bothWays("BITS from 1 on", x.row(0, 1, NONE), row(1, 1), 128, 1, 128);
+        int noneAndBit = s.bench.sequence(false, x.row(0, 0, 2), 0, 0, 0);
+        s.bench.bothWays("no ALIGN without BITS", noneAndBit, row(0, 1), 32);
+        s.bench.bothWays("ALIGN with BITS", noneAndBit, row(1, 1, 1), 64, 192);
         manyBits();
     }
 
@@ -258,6 +264,8 @@ public final class PackTest {
         int s = b.sequence(false, 2, 1, 0, 0, 1, 1);
         b.bothWays("OPTIONAL", s, row(0, 1, 0), 32);
         b.bothWays("OPTIONAL", s, row(1, 5, 0, 1), 64 + 128 + 40);
+        b.bothWays("only OPTIONAL", b.sequence(false, 1, 1), row(1), 128);
+        b.bothWays("only an ADDITION", b.sequence(true, 1, 2), row(1), 128, 128, 1, 0);
         int empty = b.sequence(false);
         b.bothWays("empty", empty, row(), 0);
         int marked = b.sequence(true);
@@ -477,6 +485,55 @@ public final class PackTest {
         x.put(1);
         Due.is("16 MISFIT before FULL", MISFIT, x.pack(1));
         Due.is("18 place", 113, x.place());
+        b.setValue(0);
+        Due.is("16 no more FULL", 1, x.pack(1));
+    }
+
+    /** What comes behind the 1000th byte must fit as well. */
+    private static void misfitBehindFull() {
+        Bench b = new Bench();
+        PackedCodec x = b.codec;
+        x.integer(0, 0, 0, false);
+        int list = x.list(0, 0, NONE);
+        int nothing = x.simple(1);
+        int truth = x.simple(0);
+        int optional = b.sequence(false, nothing, 1);
+        int addition = b.sequence(true, nothing, 2);
+        int second = b.sequence(false, nothing, 0, truth, 0, nothing, 0);
+        int choice = b.choice(true, nothing, 0, truth, 2);
+        int all = b.sequence(false, list, 0, optional, 0, addition, 0, second, 0, choice, 0);
+        x.put(112);
+        for (int i = 0; i < 112; i++) {
+            x.put(MOST);
+        }
+        int[] fitting = {1, 1, 1, 1, 1};
+        for (int number : fitting) {
+            Due.is("16 more had to come", MISFIT, x.pack(all));
+            Due.is("18 place", x.numbers(), x.place());
+            x.put(number);
+        }
+        Due.is("16 all fits", FULL, x.pack(all));
+        x.put(0);
+        Due.is("16 one is too many", MISFIT, x.pack(all));
+        Due.is("18 place", 118, x.place());
+    }
+
+    /** A type's place may have been another's before. */
+    private static void toldAnew() {
+        Bench b = new Bench();
+        b.codec.simple(0);
+        b.sequence(true, 0, 1, 0, 1, 0, 2);
+        b.codec.clear();
+        b.codec.simple(0);
+        int s = b.sequence(false, 0, 1, 0, 0);
+        b.bothWays("told anew", s, row(1, 1, 1), 224);
+        b.codec.clear();
+        b.codec.integer(0, 9, 2, false);
+        b.codec.integer(5, 5, 1, false);
+        b.bothWays("told anew", 1, row(5), 1, 0);
+        b.codec.clear();
+        b.codec.integer(5, 5, 0, false);
+        b.bothWays("told anew", 0, row(-1), 1, 255);
     }
 
     /** 2 bytes ahead, a LENGTH of 2, then 1 of the LIST's LENGTH, 990 and the last integer's. */

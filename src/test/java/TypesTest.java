@@ -143,6 +143,9 @@ public final class TypesTest {
         Bench heavy = weighing99();
         Due.is("7 weight 100", 4, heavy.codec.list(3, 0, 1));
         Due.is("7 weight 101", BAD, heavy.codec.list(4, 0, 1));
+        Due.is("7 weight 15", 5, heavy.codec.list(2, 0, 1));
+        heavy.sequence(false, 1, 0, 1, 0, 1, 0, 1, 0, 5, 0);
+        Due.is("7 weight 101 of one with weight 100", BAD, heavy.codec.list(6, 0, 1));
     }
 
     /** Type 3 weighs 99, 2 weighs 14, 1 weighs 21, 0 weighs 1. */
@@ -302,6 +305,17 @@ public final class TypesTest {
         Due.is("25 no such type", BAD, b.codec.type(c + 1, 0));
         b.codec.integer(0, 0, 0, false);
         b.codec.enumeration(1, 0);
+        for (int other : new int[] {0, 1}) {
+            Due.is("25 no parts of " + other, 0, b.codec.type(other, 2));
+            Due.is("25 no additions of " + other, 0, b.codec.type(other, 3));
+        }
+        b.codec.row(0, 0, 1);
+        b.codec.row(1, 0, 1);
+        b.codec.text(0, 1, 0, 1);
+        for (int other : new int[] {0, 1, c + 1, c + 3, c + 4, c + 5}) {
+            Due.is("25 no marker of " + other, 0, b.codec.type(other, 4));
+            Due.is("25 depth of " + other, other == 1 ? 2 : 1, b.codec.type(other, 1));
+        }
         Due.is("25 integer", 2, b.codec.type(c + 1, 0));
         Due.is("25 enumeration", 3, b.codec.type(c + 2, 0));
     }

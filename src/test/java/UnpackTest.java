@@ -100,6 +100,7 @@ public final class UnpackTest {
         b.refuses("a LENGTH too long", t, 8, 128, 128, 127, 1, 1);
         b.refuses("beyond 16383", t, 8, 128, 192, 0);
         b.refuses("beyond 16383", t, 8, 128, 255);
+        b.refuses("beyond 16383", t, 8, 128, 192);
         b.refuses("301", t, 8, 128, 129, 45);
         b.refuses("300, and bytes lack", t, 24, 128, 129, 44);
         b.refuses("bytes lack", t, 24, 128, 2, 1);
@@ -305,6 +306,8 @@ public final class UnpackTest {
         b.refuses("ALIGN in it", 1, 25, 192, 64, 1, 129);
         b.refuses("LENGTH 0", 1, 16, 192, 64, 0);
         b.refuses("bytes lack", 1, 32, 192, 64, 2, 128);
+        b.refuses("bytes lack, ahead of a fault", 1, 32, 192, 64, 2, 129);
+        b.refuses("a byte lacks, ahead of a fault", 1, 80, 192, 64, 8, 129, 0, 0, 0, 0, 0, 0);
         b.refuses("a byte is left behind it", 1, 32, 192, 64, 1, 128, 7);
         b.codec.integer(0, 256, 2, false);
         b.codec.simple(1);
