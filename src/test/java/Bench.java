@@ -94,4 +94,14 @@ final class Bench {
     static long[] row(long... numbers) {
         return numbers;
     }
+
+    /** Bytes that are written as bits, with blanks wherever they please; a last one is filled up with 0. */
+    static int[] bytes(String written) {
+        String bits = written.replace(" ", "");
+        int[] bytes = new int[(bits.length() + 7) / 8];
+        for (int i = 0; i < bits.length(); i++) {
+            bytes[i / 8] |= bits.charAt(i) == '1' ? 128 >> i % 8 : 0;
+        }
+        return bytes;
+    }
 }
