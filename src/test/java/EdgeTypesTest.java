@@ -424,6 +424,7 @@ public final class EdgeTypesTest {
                 x.part(0, ROOT);
                 Due.is(what + ", DEPTH 9", BAD, x.part(7, how));
                 Due.is(what + ", DEPTH 8", 1, x.part(6, how));
+                Due.is(what + ", one less deep behind it", 2, x.part(0, how));
                 Due.is(what + ", close", 8, x.close());
                 Due.is(what + ", DEPTH", 8, x.type(8, 1));
                 Due.is(what + ", a LIST of it", BAD, x.list(8, 0, 1));

@@ -55,6 +55,7 @@ public final class EdgeUnpackTest {
         lastBit();
         sixHundred();
         sixHundredOfEach();
+        sixHundredOfItems();
         fullOrRefused();
         stays();
         Due.end();
@@ -795,29 +796,23 @@ public final class EdgeUnpackTest {
                 int last = lastNumber(b, kind);
                 int all = b.sequence(false, list, 0, other, 0, last, 0);
                 x.feed(0);
-                x.feed(0);
-                int answer = x.unpack(all);
-                if (before == 600) {
-                    Due.is("17 the 601st, " + kind, FULL, answer);
-                } else if (answer == REFUSED) {
-                    x.wipe();
-                    x.feed(0);
-                    Due.is("17 the 600th, " + kind, 600, x.unpack(all));
-                } else {
-                    Due.is("17 the 600th, " + kind, 600, answer);
-                }
+                String what = before == 599 ? "17 the 600th, " + kind : "17 the 601st, " + kind;
+                Due.is(what, before == 599 ? 600 : FULL, x.unpack(all));
+                x.wipe();
+                Due.is(what + ", of which bits lack", REFUSED, x.unpack(all));
+                Due.is(what + ", of which bits lack: place", 0, x.place());
             }
         }
     }
 
-    /** A type with one number if all bits are 0. */
+    /** A type with one number, and one byte, if all bits are 0. */
     private static int lastNumber(Bench b, int kind) {
         PackedCodec x = b.codec;
         switch (kind) {
             case 0:
                 return x.simple(0);
             case 1:
-                return x.integer(0, 256, 2, false);
+                return x.integer(0, 100, 2, false);
             case 2:
                 return x.enumeration(3, 1);
             case 3:
@@ -834,6 +829,45 @@ public final class EdgeUnpackTest {
                 return b.sequence(true, x.simple(0), 2);
             default:
                 return b.choice(true, x.simple(1), 0);
+        }
+    }
+
+    /** A number and one that it tells of: both, or the second is the 601st. */
+    private static void sixHundredOfItems() {
+        String[] bits = {"1", "00000001", "01", "1", "01", "11", "1 0000000 1 0000000 00000001 1"};
+        for (int kind = 0; kind < 7; kind++) {
+            for (int before : new int[] {598, 599}) {
+                Bench b = new Bench();
+                PackedCodec x = b.codec;
+                int seven = x.integer(7, 7, 2, false);
+                int list = x.list(seven, 298, 298);
+                int other = x.list(seven, before - 300, before - 300);
+                int last = lastTwoNumbers(b, kind);
+                int all = b.sequence(false, list, 0, other, 0, last, 0);
+                b.setOctets(Bench.bytes(bits[kind]));
+                Due.is("17 " + before + " and two, " + kind, before == 598 ? 600 : FULL, x.unpack(all));
+            }
+        }
+    }
+
+    /** A type with two numbers. */
+    private static int lastTwoNumbers(Bench b, int kind) {
+        PackedCodec x = b.codec;
+        switch (kind) {
+            case 0:
+                return x.row(0, 1, 1);
+            case 1:
+                return x.row(1, 1, 1);
+            case 2:
+                return x.text(1, 3, 1, 1);
+            case 3:
+                return x.list(x.simple(0), 1, 1);
+            case 4:
+                return b.choice(false, x.simple(0), 0, x.simple(0), 0);
+            case 5:
+                return b.sequence(false, x.simple(0), 1);
+            default:
+                return b.sequence(true, x.simple(0), 2);
         }
     }
 
