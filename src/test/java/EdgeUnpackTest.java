@@ -721,6 +721,8 @@ public final class EdgeUnpackTest {
             Due.is(n + " bytes are known", n + 2, b.codec.unpack(known));
             ToIntFunction<PackedCodec> fewer = x -> sequence(x, true, x.row(1, n - 1, n - 1), 1, 2);
             refuses("one of " + n + " lacks, which it needs not", fewer, end, ahead + binary(0, 8 * n - 8));
+            ToIntFunction<PackedCodec> bit = x -> sequence(x, true, x.simple(0), 1, 2);
+            refuses("one of " + n + " lacks, ahead of a fault", bit, end, ahead + binary(-1, 8 * n - 8));
         }
     }
 
