@@ -162,7 +162,11 @@ final class Model {
         return random.nextBoolean() ? edges[random.nextInt(edges.length)] : Math.abs(randomLong(random));
     }
 
+    /** No more than about a thousand numbers: what is cut off there is no value of the type. */
     void randomValue(Random random, List<Long> value) {
+        if (value.size() > 1000) {
+            return;
+        }
         switch (kind) {
             case TRUTH:
                 value.add((long) random.nextInt(2));
